@@ -553,7 +553,7 @@ public final class DrawnFields {
         }
 
         boolean isRule(int kind, int x, int y, int c) {
-            if (kind < 0 || kind >= MOST_C.length || !hasField(x) || !hasField(y)) {
+            if (kind < 0 || kind > APART || !hasField(x) || !hasField(y)) {
                 return false;
             }
             return (x == y) == (kind == ONE_OF) && c >= 0 && c <= MOST_C[kind];
@@ -733,31 +733,23 @@ public final class DrawnFields {
             return f == 0 ? w >> 3 : w & (VALUES - 1);
         }
 
-        /** The rows of any word whose field 2 or 3 has the value v. */
-        static long withinWord(int f, int v) {
-            return f == 2 ? 255L << (VALUES * v) : EIGHT_TIMES << v;
+        /** Whether a word has rows whose field f has one of the values. */
+        static boolean hasWord(int w, int f, int values) {
+            return f >= 2 || ((values >> wordValue(w, f)) & 1) != 0;
         }
 
-        /** The rows of a word whose field f has the value v. */
-        static long withValue(int w, int f, int v) {
+        /** Of a word that has them, the rows whose field f has one of the values. */
+        static long withinWord(int f, int values) {
             if (f < 2) {
-                return wordValue(w, f) == v ? -1L : 0L;
+                return -1L;
             }
-            return withinWord(f, v);
-        }
-
-        /** The rows of a word whose field f has one of the values. */
-        static long withValues(int w, int f, int values) {
-            if (f < 2) {
-                return ((values >> wordValue(w, f)) & 1) != 0 ? -1L : 0L;
-            }
-            long with = 0;
+            long within = 0;
             for (int v = 0; v < VALUES; v++) {
                 if (((values >> v) & 1) != 0) {
-                    with |= withinWord(f, v);
+                    within |= f == 2 ? 255L << (VALUES * v) : EIGHT_TIMES << v;
                 }
             }
-            return with;
+            return within;
         }
 
         void becomes(RowSet other) {
@@ -776,10 +768,10 @@ public final class DrawnFields {
             }
             for (int a = 0; a < VALUES; a++) {
                 int partners = rule.partnersOf(a);
+                long within = withinWord(rule.x, 1 << a) & withinWord(rule.y, partners);
                 for (int w = 0; w < WORDS; w++) {
-                    long here = withValue(w, rule.x, a);
-                    if (here != 0) {
-                        words[w] |= here & withValues(w, rule.y, partners);
+                    if (hasWord(w, rule.x, 1 << a) && hasWord(w, rule.y, partners)) {
+                        words[w] |= within;
                     }
                 }
             }
@@ -792,10 +784,9 @@ public final class DrawnFields {
         }
 
         void keepValues(int f, int values) {
+            long within = withinWord(f, values);
             for (int w = 0; w < WORDS; w++) {
-                if (words[w] != 0) {
-                    words[w] &= withValues(w, f, values);
-                }
+                words[w] = hasWord(w, f, values) ? words[w] & within : 0;
             }
         }
 
@@ -832,7 +823,7 @@ public final class DrawnFields {
         private static int valuesWithin(long bits, int f) {
             int values = 0;
             for (int v = 0; v < VALUES; v++) {
-                if ((bits & withinWord(f, v)) != 0) {
+                if ((bits & withinWord(f, 1 << v)) != 0) {
                     values |= 1 << v;
                 }
             }
@@ -866,13 +857,12 @@ public final class DrawnFields {
         }
 
         int countAhead(int code) {
-            int of = code / WORD_BITS;
             int ahead = 0;
-            for (int w = 0; w < of && w < WORDS; w++) {
+            for (int w = 0; w < WORDS && w < code / WORD_BITS; w++) {
                 ahead += Long.bitCount(words[w]);
             }
             long below = (1L << (code % WORD_BITS)) - 1;
-            return of < WORDS ? ahead + Long.bitCount(words[of] & below) : ahead;
+            return ahead + Long.bitCount(words[(code / WORD_BITS) & (WORDS - 1)] & below);
         }
 
         void countBySum(int[] counts) {

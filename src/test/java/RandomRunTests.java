@@ -517,7 +517,14 @@ public final class RandomRunTests {
                 due("drops(" + k + ")", x.drops(k), m.call("drops", k));
                 break;
             }
-            case 10: due("back()", x.back(), m.back()); break;
+            case 10: {
+                int steps = chance.nextInt(3) == 0 ? 4 : 1;
+                for (int i = 0; i < steps; i++) {
+                    due("back()", x.back(), m.back());
+                    due("digest()", x.digest(), m.digest());
+                }
+                break;
+            }
             default: {
                 for (int i = upTo(6); i >= 0; i--) {
                     int how = about(0, 1), seed = about(0, 999999);
