@@ -108,20 +108,21 @@ public final class FaceTests {
         mix += x.orders(n % 4, (n + 1) % 4) + x.rule(n % 6, n % 4, (n + 1) % 4, 0, n % 11 - 1);
         mix += x.rule(3, 0, 0, n % 256, n % 11 - 1) + x.draws(n % 2, n) + x.drops(n % 9) + x.of(0, 5) + x.about(0, 5);
         mix += x.rows() + x.row(n, 0) + x.heavy(-1, 0) + x.heavy(1, 3) + x.sums(n) + x.sum(n) + x.soft(n) + x.core();
-        mix += x.drawn(-1, 0) + x.type(TEXT.charAt(n % TEXT.length()));
-        mix += x.reads() + (n % TEXT.length() == TEXT.length() - 1 ? x.clear() : 0) + (n % 7 == 0 ? x.back() : 0) + x.told(n % 7);
+        mix += x.drawn(-1, 0) + x.type(' ') + x.reads() + (n % 7 == 0 ? x.back() : 0) + x.told(n % 7);
         return mix + (int) x.digest();
     }
 
     /** All that an object needs is made with it: calls make nothing, whatever a run asks. */
     private static void room() {
-        DrawnFields[] objects = new DrawnFields[12];
+        DrawnFields[] objects = new DrawnFields[220];
         for (int i = 0; i < objects.length; i++) objects[i] = new DrawnFields();
         int mix = callAll(objects[0], 0);
         allocated();
         long before = allocated();
         for (int i = 1; i < objects.length; i++) {
-            for (int n = 0; n < 400; n++) mix += callAll(objects[i], n);
+            for (int n = 0; n < TEXT.length(); n++) mix += objects[i].type(TEXT.charAt(n));
+            for (int n = 0; n < 16; n++) mix += callAll(objects[i], i + n);
+            mix += objects[i].clear() + objects[i].reads();
         }
         long made = allocated() - before;
         must(made < 4096, "calls make no objects, but " + made + " bytes were made (" + mix + ")");

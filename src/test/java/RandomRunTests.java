@@ -8,7 +8,9 @@ import java.util.TreeSet;
 
 /** Seeded random runs of calls, each answer compared with a plain model written straight from the document. */
 public final class RandomRunTests {
-    private static final int RUNS = 3000;
+    private static final int RUNS = 4000;
+    /** An object answers for 512 calls alone: a step makes fewer than 212, so none begins behind this one. */
+    private static final int LAST_BEGIN = 300;
 
     /** What a step back brings back. */
     private static final class World {
@@ -454,6 +456,7 @@ public final class RandomRunTests {
     private final Model m = new Model();
     private final StringBuilder story = new StringBuilder();
     private final int widest;
+    private int calls;
     private boolean wrong;
 
     private RandomRunTests(int seed) {
@@ -476,6 +479,7 @@ public final class RandomRunTests {
     private int someRule() { return about(0, m.w.rules.size() - 1); }
 
     private void due(String call, long got, long want) {
+        calls++;
         story.append(call).append(" -> ").append(got).append('\n');
         if (got != want) {
             wrong = true;
@@ -621,7 +625,7 @@ public final class RandomRunTests {
     }
 
     private boolean goesWrong() {
-        for (int n = 0; n < 60 && !wrong; n++) {
+        for (int n = 0; n < 90 && calls <= LAST_BEGIN && !wrong; n++) {
             int die = chance.nextInt(20);
             if (die < 10) callChange();
             else if (die < 18) callQuestion();
