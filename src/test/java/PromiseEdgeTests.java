@@ -275,6 +275,31 @@ public final class PromiseEdgeTests {
         }
     }
 
+    private static void dropsRows() {
+        DrawnFields x = withFields(0, 7, 0, 7, 0, 7);
+        x.rule(0, 0, 1, 0, NONE);
+        x.rule(1, 2, 0, 0, NONE);
+        due("no ROW keeps both", x.rows(), 0);
+        due("left", x.drops(0), 1);
+        due("KIND", x.about(0, 0), 1);
+        due("x", x.about(0, 1), 2);
+        due("y", x.about(0, 2), 0);
+        due("rows that keep the one that came nearer", x.rows(), 28 * 8);
+        due("the first of them", x.row(0, 0) * 100 + x.row(0, 1) * 10 + x.row(0, 2), 100);
+        x.back();
+        due("x of it ahead of the drop", x.about(0, 1), 0);
+        due("y of it ahead of the drop", x.about(0, 2), 1);
+        due("no ROW keeps both", x.rows(), 0);
+        x.drops(1);
+        due("the last goes", x.rows(), 8);
+        x.rule(0, 2, 1, 14, NONE);
+        due("another comes in its place", x.rows(), 0);
+        x.drops(0);
+        due("the other comes nearer", x.rows(), 8);
+        due("its x", x.about(0, 1), 2);
+        due("its y", x.about(0, 2), 1);
+    }
+
     private static void dropsBad() {
         DrawnFields x = withFields(0, 7);
         badBeside("RULE of none", 0, -1, n -> x.drops(n));
@@ -537,6 +562,13 @@ public final class PromiseEdgeTests {
             x.rule(3, 2, 2, 64, NONE);
             due("the only ROW is number 0", x.draws(how, 5), 0);
             due("its VALUES", x.of(0, 5) * 1000 + x.of(1, 5) * 100 + x.of(2, 5) * 10 + x.of(3, 5), 7760);
+        }
+        DrawnFields every = withFields(0, 7, 0, 7, 0, 7, 0, 7);
+        every.rule(1, 1, 2, 0, NONE);
+        every.rule(0, 3, 2, 7, NONE);
+        for (int seed = 0; seed < 50; seed++) {
+            int row = every.draws(seed % 2, seed);
+            for (int f = 0; f < 4; f++) due("VALUE of ROW " + row, every.of(f, 5), every.row(row, f));
         }
         for (int v = 0; v < 8; v++) {
             DrawnFields x = withFields(0, 7);
@@ -811,6 +843,7 @@ public final class PromiseEdgeTests {
         test("7: BAD", PromiseEdgeTests::ruleBad);
         test("7: FULL: 8", PromiseEdgeTests::ruleFull);
         test("8: (those behind it are one nearer)", PromiseEdgeTests::dropsNearer);
+        test("8: A RULE goes: how many are left", PromiseEdgeTests::dropsRows);
         test("8: BAD", PromiseEdgeTests::dropsBad);
         test("9: its VALUE in NOW (5; NONE)", PromiseEdgeTests::ofNow);
         test("9: VALUES DRAWN in its turn (4, bits)", PromiseEdgeTests::ofTurnBits);

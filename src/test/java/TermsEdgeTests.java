@@ -512,12 +512,32 @@ public final class TermsEdgeTests {
         for (int v = 0; v < 5; v++) due("v " + v + " came", came[v] ? 1 : 0, 1);
     }
 
+    private static void byProducts() {
+        DrawnFields x = withFields(6, 7, 2, 3, 0, 1, 4, 6);
+        int[][] weights = {{2, 3}, {0, 4}, {5, 1}, {3, 0, 2}};
+        for (int f = 0; f < 4; f++) {
+            for (int i = 0; i < weights[f].length; i++) x.weighs(f, x.of(f, 0) + i, weights[f][i]);
+        }
+        int[] products = new int[24];
+        for (int i = 0; i < 24; i++) {
+            products[i] = weights[0][i / 12] * weights[1][i / 6 % 2] * weights[2][i / 3 % 2] * weights[3][i % 3];
+        }
+        for (int seed = 0; seed < 120; seed++) {
+            due("by the WEIGHTS of ROWS, SEED " + seed, x.draws(0, seed), pick(next(seed), products));
+        }
+    }
+
     private static void onesTogether() {
         DrawnFields x = withFields(0, 2, 0, 1);
         for (int v = 0; v < 3; v++) x.weighs(0, v, 0);
         x.weighs(1, 1, 9);
         for (int seed = 0; seed < 30; seed++) {
             due("all ROWS weigh 0", x.draws(0, seed), next(seed) / 65536 % 6);
+        }
+        x = withFields(1, 2, 3, 4, 5, 7, 0, 4);
+        for (int v = 0; v < 8; v++) x.weighs(2, v, 0);
+        for (int seed = 0; seed < 60; seed++) {
+            due("all ROWS of four FIELDS weigh 0", x.draws(0, seed * 7), next(seed * 7) / 65536 % 60);
         }
         x = withFields(0, 2);
         x.weighs(0, 1, 0);
@@ -719,6 +739,17 @@ public final class TermsEdgeTests {
         StringBuilder t = new StringBuilder().append(LETTERS.charAt(letter));
         for (int i = 0; i < numbers; i++) t.append(i == 0 ? "" : " ").append(0);
         return t.toString();
+    }
+
+    private static void togetherOrInOrder() {
+        for (int seed = 0; seed < 10; seed++) {
+            DrawnFields x = withFields(0, 7, 0, 7);
+            reads(x, "d" + seed + ";");
+            due("d is TOGETHER", x.of(0, 5) * 8 + x.of(1, 5), next(seed) / 65536 % 64);
+            reads(x, "o" + seed + ";");
+            due("o is IN ORDER", x.of(0, 5), next(seed) / 65536 % 8);
+            due("o takes an X for each FIELD", x.of(1, 5), next(next(seed)) / 65536 % 8);
+        }
     }
 
     private static void howManyNumbers() {
@@ -1088,6 +1119,7 @@ public final class TermsEdgeTests {
         test("MAY BE: all LAWFUL ROWS", TermsEdgeTests::roundOfLawfulRows);
         test("X times 1103515245 and 12345, by 2147483648 what is left over", TermsEdgeTests::wrapAround);
         test("the first ROW by which WEIGHTS of it and all ahead are above v", TermsEdgeTests::firstAbove);
+        test("by the WEIGHTS of MAY BE together what is left over", TermsEdgeTests::byProducts);
         test("(if these are 0 each counts 1)", TermsEdgeTests::onesTogether);
         test("by the WEIGHTS of CAN (or ones, if these are 0)", TermsEdgeTests::onesInOrder);
         test("FIELDS each once (0, 1, .. at first; a new FIELD comes behind all)", TermsEdgeTests::orderAtFirst);
@@ -1101,6 +1133,7 @@ public final class TermsEdgeTests {
         test("nothing else makes DRAWN empty", TermsEdgeTests::drawnStays);
         test("THE TEXT (150 bytes at most)", TermsEdgeTests::textBytes);
         test("ORDERS of its own, each ended by ;", TermsEdgeTests::howManyNumbers);
+        test("d SEED (TOGETHER), o SEED (IN ORDER)", TermsEdgeTests::togetherOrInOrder);
         test("Numbers have 1 to 6 figures", TermsEdgeTests::figures);
         test("blanks (32) may stand anywhere but within a number", TermsEdgeTests::blanks);
         test("FAULT: the place of the first byte that can not stand there", TermsEdgeTests::firstByteThatCanNotStand);
