@@ -509,6 +509,22 @@ public final class PromiseEdgeTests {
         due("SOFT ones are not in it", x.core(), 5);
     }
 
+    private static void coreOfMostRows() {
+        DrawnFields x = withFields(0, 7, 0, 7, 0, 7, 0, 7);
+        x.rule(0, 2, 3, 14, 5);
+        x.rule(0, 2, 3, 0, 5);
+        due("the first can be KEPT", x.about(0, 5), 1);
+        due("the other not beside it", x.about(1, 5), 0);
+        due("core", x.core(), 0);
+        x.rule(1, 2, 3, 0, NONE);
+        due("neither beside a HARD one", x.about(0, 5) + x.about(1, 5), 0);
+        due("core", x.core(), 0);
+        x.rule(1, 3, 2, 0, NONE);
+        due("no ROW of 4096 keeps both", x.core(), 12);
+        x.rule(3, 0, 0, 0, NONE);
+        due("nor one alone", x.core(), 16);
+    }
+
     private static void coreBits() {
         DrawnFields x = withFields(0, 7);
         for (int k = 0; k < 8; k++) x.rule(3, 0, 0, 255 & ~(1 << k), NONE);
@@ -863,6 +879,7 @@ public final class PromiseEdgeTests {
         test("16: -5: not so many", PromiseEdgeTests::softEdges);
         test("16: BAD: i below 0", PromiseEdgeTests::softBad);
         test("17: 0: some ROW keeps all HARD ones", PromiseEdgeTests::coreNone);
+        test("17: of 4096 ROWS", PromiseEdgeTests::coreOfMostRows);
         test("17: CORE, as bits of RULES", PromiseEdgeTests::coreBits);
         test("18: BAD", PromiseEdgeTests::drawsBad);
         test("18: NO: there is none", PromiseEdgeTests::drawsNo);
