@@ -20,7 +20,11 @@ public final class FaceTests {
         "int type(int)", "int clear()", "int reads()", "int back()", "int told(int)", "long digest()");
     private static final Set<String> CONSTANTS = Set.of("NONE", "BAD", "NO", "FULL");
     private static final String[] BANNED = {"throw", "throws", "try", "catch", "synchronized", "assert", "import",
-        "package", "protected", "->", "::", "@", "equals", "hashCode", "toString", "static \\{"};
+        "package", "protected", "->", "::", "@", "equals", "hashCode", "toString", "static \\{", "while \\(true\\)",
+        "for \\([^;)]*;\\s*;", "double", "float"};
+    /** What the program uses of the library: LANGUAGE.md allows more, but what is new here is to be looked up there. */
+    private static final Set<String> LIBRARY = Set.of("Integer.bitCount", "Long.bitCount", "System.arraycopy");
+    private static final int MOST_LINES = 60;
 
     private static final String TEXT = "d1;f0 7;h2 0 1 0;s1 5 0 1 1;w0 0 1;r0;x0;o7;";
 
@@ -55,6 +59,10 @@ public final class FaceTests {
             } else {
                 must(Modifier.isPrivate(m.getModifiers()), m + " is private");
             }
+            must(m.getParameterCount() <= 7, m + " takes at most seven parameters");
+        }
+        for (Method m : c.getDeclaredMethods()) {
+            must(Modifier.isPublic(m.getModifiers()) || !names.contains(m.getName()), m + " has a name of its own");
         }
         must(open.equals(FACE), "the public methods are those of the document");
         for (Class<?> inside : c.getDeclaredClasses()) {
@@ -62,6 +70,9 @@ public final class FaceTests {
             for (Method m : inside.getDeclaredMethods()) {
                 must(!names.contains(m.getName()), m + " does not bear a public method's name");
                 must(m.getParameterCount() <= 7, m + " takes at most seven parameters");
+            }
+            for (Field f : inside.getDeclaredFields()) {
+                must(!Modifier.isStatic(f.getModifiers()) || Modifier.isFinal(f.getModifiers()), f + " is final");
             }
             must(inside.getDeclaredFields().length <= 20, inside + " has at most twenty fields");
         }
@@ -95,6 +106,30 @@ public final class FaceTests {
         for (int i = 0; i < source.length(); i++) {
             must(source.charAt(i) < 128, "the source has only signs below 128");
         }
+        library(code);
+        lengths(code);
+    }
+
+    private static void library(String code) {
+        Set<String> own = new TreeSet<>();
+        for (Class<?> inside : DrawnFields.class.getDeclaredClasses()) own.add(inside.getSimpleName());
+        Matcher m = Pattern.compile("\\b([A-Z]\\w*)\\.\\w+").matcher(code);
+        while (m.find()) {
+            must(own.contains(m.group(1)) || LIBRARY.contains(m.group()), m.group() + " is known");
+        }
+    }
+
+    /** A method begins with a line that opens a body and ends with the next brace as far in. */
+    private static void lengths(String code) {
+        Matcher m = Pattern.compile("(?m)^((?: {4}){1,2})(?! )(?![^\n]*\\b(?:class|if|for|while|switch)\\b)"
+            + "[^\n]*\\) \\{\n(?s:.*?)\n\\1\\}").matcher(code);
+        int found = 0;
+        while (m.find()) {
+            found++;
+            String body = m.group();
+            must(body.split("\n").length <= MOST_LINES, body.substring(0, body.indexOf('\n')).trim() + ".. is short");
+        }
+        must(found > 80, "the methods were found, but only " + found);
     }
 
     private static long allocated() {
